@@ -217,18 +217,18 @@ public final class EqualMethods {
         if (pairs.has(a, b)) {
             return STATE;
         }
-        return pairs.count == MOST_PAIRS ? ROOM : pairs.add(a, b);
+        return pairs.size == MOST_PAIRS ? ROOM : pairs.add(a, b);
     }
 
     public int drop() {
-        int were = pairs.count;
-        pairs.count = 0;
+        int were = pairs.size;
+        pairs.size = 0;
         return were;
     }
 
     public int prove() {
-        proof.begin(pairs.count);
-        for (int pair = 0; pair < pairs.count; pair++) {
+        proof.begin(pairs.size);
+        for (int pair = 0; pair < pairs.size; pair++) {
             for (int x = 0; x <= mask; x++) {
                 for (int y = 0; y <= mask; y++) {
                     if (proof.answer != UNLIKE) {
@@ -248,7 +248,7 @@ public final class EqualMethods {
         switch (what) {
             case 0: return build0.methods;
             case 1: return build1.methods;
-            case 2: return pairs.count;
+            case 2: return pairs.size;
             case 3: return bits;
             case 4: case 5: case 6: case 7: return ports.standsFor[what - 4];
             case 8: case 9: case 10: case 11: return ports.groups[what - 8];
@@ -501,14 +501,12 @@ public final class EqualMethods {
             underWay = 0;
             enter(method, x, y);
             for (int step = 0; step < MOST_STEPS && underWay > 0; step++) {
-                int at = placeOfTop();
                 if (lines[underWay - 1] >= build.sizes[methods[underWay - 1]]) {
                     giveBack(0);
-                } else if (isSpentAt(build.ops[at])) {
+                } else if (isSpentBy(build.ops[placeOfTop()])) {
                     stop(SPENT, 0, 0);
                 } else {
-                    trace.ops++;
-                    perform(build.ops[at], build.as[at], build.bs[at], build.cs[at]);
+                    perform(placeOfTop());
                 }
             }
         }
@@ -517,12 +515,16 @@ public final class EqualMethods {
             return build.placeOf(methods[underWay - 1], lines[underWay - 1]);
         }
 
-        private boolean isSpentAt(int op) {
+        private boolean isSpentBy(int op) {
             return trace.ops == MOST_OPS || op == TELL && trace.tells == MOST_TELLS;
         }
 
-        private void perform(int op, int a, int b, int c) {
-            switch (op) {
+        private void perform(int place) {
+            int a = build.as[place];
+            int b = build.bs[place];
+            int c = build.cs[place];
+            trace.ops++;
+            switch (build.ops[place]) {
                 case SET:
                     put(a, b);
                     break;
@@ -549,7 +551,7 @@ public final class EqualMethods {
                     stop(THREW, a, get(b));
                     break;
                 default:
-                    calculate(op, a, get(b), get(c));
+                    calculate(build.ops[place], a, get(b), get(c));
             }
         }
 
@@ -715,12 +717,12 @@ public final class EqualMethods {
 
     /** The ASSUMED PAIRS. */
     private static final class Pairs {
-        int count = 0;
+        int size = 0;
         final int[] as = new int[MOST_PAIRS];
         final int[] bs = new int[MOST_PAIRS];
 
         boolean has(int a, int b) {
-            for (int i = 0; i < count; i++) {
+            for (int i = 0; i < size; i++) {
                 if (as[i] == a && bs[i] == b) {
                     return true;
                 }
@@ -729,9 +731,9 @@ public final class EqualMethods {
         }
 
         int add(int a, int b) {
-            as[count] = a;
-            bs[count] = b;
-            return count++;
+            as[size] = a;
+            bs[size] = b;
+            return size++;
         }
     }
 
