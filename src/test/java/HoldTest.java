@@ -11,6 +11,7 @@ public final class HoldTest {
         firstInputs();
         spentRuns();
         tellsInOrder();
+        fortyTells();
         tellsRenamed();
         matches();
         finds();
@@ -177,6 +178,24 @@ public final class HoldTest {
         CHECK.due("the PORT counts in one GROUP too", 0, x.hold(a, b));
     }
 
+    private static void fortyTells() {
+        EqualMethods x = new EqualMethods(3);
+        for (int build = 0; build < 2; build++) {
+            int twenty = x.method(build);
+            for (int i = 0; i < 20; i++) {
+                x.op(build, twenty, Programs.TELL, i / (build == 0 ? 5 : 1) % 4, 0, 0);
+            }
+            int[] call = Programs.line(Programs.CALL, 2, twenty, 0);
+            Programs.make(x, build, call, call, Programs.line(Programs.SKIP, 1, 4), call);
+        }
+        CHECK.due("40 TELLS, another order", 0, x.hold(1, 1));
+        for (int p = 0; p < 4; p++) {
+            x.group(p, 3 - p);
+        }
+        CHECK.due("40 TELLS by GROUPS, or SPENT", 2, x.hold(1, 1));
+        CHECK.due("20 TELLS by GROUPS", 1, x.hold(0, 0));
+    }
+
     private static void tellsRenamed() {
         EqualMethods x = new EqualMethods(2);
         int a = Programs.make(x, 0, Programs.line(Programs.TELL, 0, 0), Programs.line(Programs.TELL, 1, 1),
@@ -202,7 +221,9 @@ public final class HoldTest {
     private static void matches() {
         EqualMethods x = new EqualMethods(2);
         int a = Programs.make(x, 0, Programs.line(Programs.ADD, 2, 0, 1), Programs.line(Programs.RETURN, 2));
+        int empty = x.method(0);
         CHECK.due("no METHOD to match", NONE, x.match(a));
+        CHECK.due("no METHOD to match, not even one without OPS", NONE, x.match(empty));
         Programs.make(x, 1, Programs.line(Programs.XOR, 2, 0, 1), Programs.line(Programs.RETURN, 2));
         Programs.make(x, 1, Programs.line(Programs.GO, 0));
         CHECK.due("unlike or SPENT", NONE, x.match(a));
@@ -215,7 +236,10 @@ public final class HoldTest {
         CHECK.due("by the PORTS as they are", 5, x.match(sends));
         x.rename(0, 3);
         CHECK.due("by the PORTS renamed", 4, x.match(sends));
-        int[] wrong = {-1, 2, MIN, MAX};
+        Programs.remake(x, 1, 0, Programs.line(Programs.ADD, 4, 0, 1), Programs.line(Programs.RETURN, 4));
+        CHECK.due("METHOD 0", 0, x.match(a));
+        CHECK.due("none of six", NONE, x.match(empty));
+        int[] wrong = {-1, 3, MIN, MAX};
         for (int method : wrong) {
             CHECK.due("match(" + method + ")", UNKNOWN, x.match(method));
         }
@@ -248,6 +272,33 @@ public final class HoldTest {
             Programs.remake(x, 0, a, Programs.line(Programs.TELL, 1, 0), Programs.line(Programs.SKIP, 0, 0));
             Programs.remake(x, 1, b, Programs.line(Programs.TELL, 2, 0), Programs.line(Programs.SKIP, 0, 0));
             CHECK.due("SPENT is not 1", NONE, x.find(a, b));
+            Programs.remake(x, 1, b, Programs.line(Programs.TELL, 1, 0), Programs.line(Programs.SKIP, 0, 0));
+            CHECK.due("SPENT is not 1, told alike", NONE, x.find(a, b));
+            findsByAllInputs(new EqualMethods(bits), (1 << bits) - 1);
+        }
+    }
+
+    /** TELLS that no RENAMING makes LIKE, where x and y are these alone, and LIKE by 0 1 2 3 elsewhere. */
+    private static void findsByAllInputs(EqualMethods x, int mask) {
+        int a = Programs.make(x, 0, Programs.line(Programs.TELL, 0, 0));
+        int b = x.method(1);
+        int[][] inputs = {{0, 0}, {0, mask}, {mask, 0}, {mask, mask}};
+        for (int[] input : inputs) {
+            Programs.remake(x, 1, b, Programs.line(Programs.SET, 2, input[0]), Programs.line(Programs.SET, 3, input[1]),
+                    Programs.line(Programs.TELL, 0, 0), Programs.line(Programs.XOR, 2, 2, 0),
+                    Programs.line(Programs.XOR, 3, 3, 1), Programs.line(Programs.SKIP, 2, 7),
+                    Programs.line(Programs.GO, 24), Programs.line(Programs.SKIP, 3, 9),
+                    Programs.line(Programs.GO, 24), Programs.line(Programs.TELL, 0, 0));
+            String where = "unlike at " + input[0] + " " + input[1];
+            CHECK.due(where + ", find", NONE, x.find(a, b));
+            CHECK.due(where + ", hold", 0, x.hold(a, b));
+            CHECK.due(where + ", first(0)", input[0], x.first(0));
+            CHECK.due(where + ", first(1)", input[1], x.first(1));
+            x.drop();
+            x.assume(a, b);
+            CHECK.due(where + ", prove", 0, x.prove());
+            CHECK.due(where + ", why(1)", input[0], x.why(1));
+            CHECK.due(where + ", why(2)", input[1], x.why(2));
         }
     }
 
