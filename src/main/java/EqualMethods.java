@@ -96,7 +96,7 @@ public final class EqualMethods {
     }
 
     public int op(int build, int method, int op, int a, int b, int c) {
-        if (!isMethod(build, method) || op == TELL && !within(a, 0, PORTS - 1)) {
+        if (!isMethod(build, method) || op == TELL && !isPort(a)) {
             return UNKNOWN;
         }
         if (!within(op, SET, THROW) || !fits(op, 0, a) || !fits(op, 1, b) || !fits(op, 2, c)) {
@@ -146,14 +146,14 @@ public final class EqualMethods {
     }
 
     public int rename(int p, int q) {
-        if (!within(p, 0, PORTS - 1) || !within(q, 0, PORTS - 1)) {
+        if (!isPort(p) || !isPort(q)) {
             return UNKNOWN;
         }
         return ports.swapIn(p, q);
     }
 
     public int group(int p, int g) {
-        if (!within(p, 0, PORTS - 1)) {
+        if (!isPort(p)) {
             return UNKNOWN;
         }
         if (!within(g, 0, GROUPS - 1)) {
@@ -268,6 +268,10 @@ public final class EqualMethods {
         return within(build, 0, 1) && buildOf(build).has(method);
     }
 
+    private static boolean isPort(int port) {
+        return within(port, 0, PORTS - 1);
+    }
+
     private boolean isPair(int a, int b) {
         return build0.has(a) && build1.has(b);
     }
@@ -277,9 +281,9 @@ public final class EqualMethods {
             case A_REGISTER: return within(value, 0, REGISTERS - 1);
             case A_NUMBER: return within(value, 0, mask);
             case A_LINE: return within(value, 0, MOST_LINES);
-            case A_PORT: return within(value, 0, PORTS - 1);
             case A_METHOD: return within(value, 0, MOST_METHODS - 1);
             case A_KIND: return within(value, LOWEST_KIND, HIGHEST_KIND);
+            // A PORT that is not there has been refused ahead, as UNKNOWN.
             default: return true;
         }
     }
@@ -310,7 +314,7 @@ public final class EqualMethods {
     private boolean runsAlike(Ports by) {
         Trace one = run0.trace;
         Trace other = run1.trace;
-        return one.endsLike(other) && by.alike(one, 0, one.tells, other, 0, other.tells);
+        return one.endsLike(other) && one.tells == other.tells && by.alike(one, other, 0, one.tells);
     }
 
     /** Of the RENAMINGS, a bit each, those by which the two latest RUNS are LIKE too; a SPENT RUN leaves none. */
@@ -363,20 +367,17 @@ public final class EqualMethods {
         if (one.callings != other.callings) {
             return false;
         }
-        int oneFrom = 0;
-        int otherFrom = 0;
+        int from = 0;
         for (int i = 0; i < one.callings; i++) {
-            int oneTo = one.tellsAhead[i];
-            int otherTo = other.tellsAhead[i];
-            if (!one.sameInputs(other, i)
+            int to = one.tellsAhead[i];
+            if (!one.sameCalling(other, i)
                     || !pairs.has(one.called[i], other.called[i])
-                    || !ports.alike(one, oneFrom, oneTo, other, otherFrom, otherTo)) {
+                    || !ports.alike(one, other, from, to)) {
                 return false;
             }
-            oneFrom = oneTo;
-            otherFrom = otherTo;
+            from = to;
         }
-        return ports.alike(one, oneFrom, one.tells, other, otherFrom, other.tells);
+        return one.tells == other.tells && ports.alike(one, other, from, one.tells);
     }
 
     /** The METHODS of one BUILD; the OPS of all of them stand in common rows. */
@@ -464,8 +465,11 @@ public final class EqualMethods {
             return kind == other.kind && number == other.number;
         }
 
-        boolean sameInputs(Trace other, int calling) {
-            return calledX[calling] == other.calledX[calling] && calledY[calling] == other.calledY[calling];
+        /** Whether a CALLING has the same inputs in both, and comes behind as many TELLS. */
+        boolean sameCalling(Trace other, int calling) {
+            return calledX[calling] == other.calledX[calling]
+                    && calledY[calling] == other.calledY[calling]
+                    && tellsAhead[calling] == other.tellsAhead[calling];
         }
     }
 
@@ -674,27 +678,23 @@ public final class EqualMethods {
             standsIn[q] = p;
         }
 
-        /** Whether what one told, from and to, and what the other told, from and to, are LIKE. */
-        boolean alike(Trace one, int from, int to, Trace other, int otherFrom, int otherTo) {
-            if (to - from != otherTo - otherFrom) {
-                return false;
-            }
+        /** Whether the TELLS of both from this one on, ahead of that one, are LIKE. */
+        boolean alike(Trace one, Trace other, int from, int to) {
             for (int group = 0; group < GROUPS; group++) {
-                if (!alikeIn(group, one, from, other, otherFrom, to - from)) {
+                if (!alikeIn(group, one, other, from, to)) {
                     return false;
                 }
             }
             return true;
         }
 
-        private boolean alikeIn(int group, Trace one, int from, Trace other, int otherFrom, int tells) {
-            int reached = otherFrom;
-            int end = otherFrom + tells;
-            for (int i = from; i < from + tells; i++) {
+        private boolean alikeIn(int group, Trace one, Trace other, int from, int to) {
+            int reached = from;
+            for (int i = from; i < to; i++) {
                 int port = one.tellPorts[i];
                 if (groups[port] == group) {
-                    reached = nextIn(group, other, reached, end);
-                    if (reached == end
+                    reached = nextIn(group, other, reached, to);
+                    if (reached == to
                             || standsIn[other.tellPorts[reached]] != port
                             || other.tellNumbers[reached] != one.tellNumbers[i]) {
                         return false;
@@ -702,7 +702,7 @@ public final class EqualMethods {
                     reached++;
                 }
             }
-            return nextIn(group, other, reached, end) == end;
+            return nextIn(group, other, reached, to) == to;
         }
 
         private int nextIn(int group, Trace other, int from, int end) {

@@ -76,37 +76,17 @@ public final class BuildTest {
         }
     }
 
-    /** r register, v number, l line, p port, m method, k kind, - free. */
-    private static final String[] SHAPES = {
-        "rv-", "rr-", "rrr", "rrr", "rrr", "rrr", "rrr", "rrr", "rrr", "rrr", "rl-", "l--", "pr-", "rmr", "r--", "kr-",
-    };
-
-    private static int lowest(char shape) {
-        return shape == 'k' ? 2 : 0;
-    }
-
-    private static int highest(char shape, int bits) {
-        switch (shape) {
-            case 'r': case 'm': return 5;
-            case 'v': return (1 << bits) - 1;
-            case 'l': return 24;
-            case 'p': return 3;
-            default: return 7;
-        }
-    }
-
     private static void operands(int bits) {
-        for (int op = 0; op < 16; op++) {
+        for (int op = 0; op < Programs.OPS; op++) {
             EqualMethods x = new EqualMethods(bits);
             x.method(0);
             for (int place = 0; place < 3; place++) {
-                char shape = SHAPES[op].charAt(place);
-                if (shape != '-') {
-                    int refused = shape == 'p' ? EqualMethods.UNKNOWN : EqualMethods.OUTSIDE;
-                    operand(x, op, place, lowest(shape), 0);
-                    operand(x, op, place, highest(shape, bits), 0);
-                    operand(x, op, place, lowest(shape) - 1, refused);
-                    operand(x, op, place, highest(shape, bits) + 1, refused);
+                if (Programs.isNamed(op, place)) {
+                    int refused = op == Programs.TELL && place == 0 ? EqualMethods.UNKNOWN : EqualMethods.OUTSIDE;
+                    operand(x, op, place, Programs.least(op, place), 0);
+                    operand(x, op, place, Programs.most(op, place, bits), 0);
+                    operand(x, op, place, Programs.least(op, place) - 1, refused);
+                    operand(x, op, place, Programs.most(op, place, bits) + 1, refused);
                     operand(x, op, place, MIN, refused);
                     operand(x, op, place, MAX, refused);
                 }
@@ -115,10 +95,8 @@ public final class BuildTest {
     }
 
     private static void operand(EqualMethods x, int op, int place, int value, int want) {
-        int[] given = new int[3];
-        for (int i = 0; i < 3; i++) {
-            given[i] = i == place ? value : lowest(SHAPES[op].charAt(i));
-        }
+        int[] given = Programs.leastOperands(op);
+        given[place] = value;
         String call = "op " + op + " with " + given[0] + " " + given[1] + " " + given[2];
         CHECK.due(call, want, x.op(0, 0, op, given[0], given[1], given[2]));
         CHECK.due("OPS behind " + call, want == 0 ? 1 : 0, x.clear(0, 0));
@@ -127,11 +105,10 @@ public final class BuildTest {
     private static void freeOperands() {
         EqualMethods x = new EqualMethods(2);
         x.method(1);
-        for (int op = 0; op < 16; op++) {
-            int[] given = new int[3];
+        for (int op = 0; op < Programs.OPS; op++) {
+            int[] given = Programs.leastOperands(op);
             for (int i = 0; i < 3; i++) {
-                char shape = SHAPES[op].charAt(i);
-                given[i] = shape != '-' ? lowest(shape) : i == 1 ? MIN : MAX;
+                given[i] = Programs.isNamed(op, i) ? given[i] : i == 1 ? MIN : MAX;
             }
             CHECK.due("free operands of " + op, op, x.op(1, 0, op, given[0], given[1], given[2]));
         }

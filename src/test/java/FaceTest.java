@@ -17,14 +17,14 @@ public final class FaceTest {
     private static final Path SOURCE = Path.of("src/main/java/EqualMethods.java");
     private static final Class<?> FACE = EqualMethods.class;
 
-    public static void main(String[] args) throws IOException {
+    public static void main(String[] args) throws IOException, IllegalAccessException {
         members();
         nestedClasses();
         words();
         CHECK.end();
     }
 
-    private static void members() {
+    private static void members() throws IllegalAccessException {
         Map<String, Integer> methods = new TreeMap<>(Map.of("method", 1, "op", 6, "clear", 2, "run", 4, "ran", 1,
                 "told", 2, "rename", 2, "group", 2, "hold", 2, "first", 1));
         methods.putAll(Map.of("match", 1, "find", 2, "assume", 2, "drop", 0, "prove", 0, "why", 1, "count", 1));
@@ -51,7 +51,7 @@ public final class FaceTest {
         for (Field field : FACE.getDeclaredFields()) {
             if (!Modifier.isPrivate(field.getModifiers())) {
                 seen++;
-                CHECK.due(field + " is a constant of the face", 1, constants.containsKey(field.getName()) ? 1 : 0);
+                CHECK.due(field + " is a constant of the face", constants.getOrDefault(field.getName(), 0), field.getInt(null));
                 CHECK.due(field + " is public, static, final", Modifier.PUBLIC | Modifier.STATIC | Modifier.FINAL,
                         field.getModifiers());
             }

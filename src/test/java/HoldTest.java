@@ -15,6 +15,7 @@ public final class HoldTest {
         tellsRenamed();
         matches();
         finds();
+        findsByTheLastInputs();
         leavesOthersAlone();
         refusals();
         CHECK.end();
@@ -299,6 +300,28 @@ public final class HoldTest {
             CHECK.due(where + ", prove", 0, x.prove());
             CHECK.due(where + ", why(1)", input[0], x.why(1));
             CHECK.due(where + ", why(2)", input[1], x.why(2));
+        }
+    }
+
+    private static void findsByTheLastInputs() {
+        for (int bits = 2; bits <= 3; bits++) {
+            int greatest = (1 << bits) - 1;
+            EqualMethods x = new EqualMethods(bits);
+            // All but one RENAMING fall at the first inputs, and that one at the last.
+            String four = "TELL 0 0; TELL 1 0; TELL 2 0; TELL 3 0";
+            int a = Programs.make(x, 0, four);
+            int b = Programs.make(x, 1, four + "; SET 2 " + greatest + "; AND 3 0 1; BELOW 3 3 2; SKIP 3 9; GO 24; TELL 0 0");
+            CHECK.due("unlike at the last inputs alone", NONE, x.find(a, b));
+            Programs.remake(x, 1, b, four + "; SET 2 " + greatest + "; AND 3 0 1; BELOW 3 3 2; SKIP 3 7");
+            CHECK.due("SPENT at the last inputs alone", NONE, x.find(a, b));
+            Programs.remake(x, 1, b, four + "; SET 2 " + greatest + "; AND 3 0 1; BELOW 3 3 2; SKIP 3 24");
+            CHECK.due("LIKE at all inputs", 123, x.find(a, b));
+            Programs.remake(x, 0, a, "RETURN 0");
+            Programs.remake(x, 1, b, "ADD 0 0 2; ADD 0 0 1; LESS 0 0 1; RETURN 0");
+            CHECK.due("no input is beyond the NUMBERS", 123, x.find(a, b));
+            Programs.remake(x, 0, a, "RETURN 1");
+            Programs.remake(x, 1, b, "ADD 1 1 2; RETURN 1");
+            CHECK.due("no input is beyond the NUMBERS", 123, x.find(a, b));
         }
     }
 

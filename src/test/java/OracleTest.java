@@ -11,7 +11,7 @@ public final class OracleTest {
     private static final int[] ODD_NUMBERS = {
         -1, -2, 4, 6, 7, 8, 12, 16, 24, 25, 41, 101, -101, Integer.MIN_VALUE, Integer.MAX_VALUE,
     };
-    private static final int[] OFTEN = {0, 1, 2, 3, 4, 5, 6, 7, 8, 9, 10, 10, 11, 12, 12, 12, 12, 13, 13, 13, 14, 15};
+    private static final int[] OFTEN = {0, 1, 2, 3, 4, 5, 6, 7, 8, 9, 10, 10, 11, 12, 12, 12, 12, 13, 13, 13, 13, 14, 15};
     private static final String[] WATCHED = {"run", "hold", "match", "find", "prove"};
     private static final int[][] SEEN = new int[WATCHED.length][4];
 
@@ -20,10 +20,13 @@ public final class OracleTest {
     private final EqualMethods x;
     private final Oracle oracle;
     private final int numbers;
+    /** Whether METHODS of the same number are twins and PAIRS, so that prove() seldom answers 0. */
+    private final boolean paired;
     private int calls = 0;
 
     private OracleTest(int seed) {
         this.seed = seed;
+        paired = seed / 2 % 2 == 0;
         random = new Random(seed);
         x = new EqualMethods(seed);
         oracle = new Oracle(seed);
@@ -69,8 +72,11 @@ public final class OracleTest {
             newMethod(0);
             newMethod(1);
         }
-        while (calls < CALLS - 30) {
+        while (calls < CALLS - 60) {
             twins();
+            if (paired) {
+                assumeAll();
+            }
             for (int i = 0; i < 5; i++) {
                 ask();
             }
@@ -79,6 +85,19 @@ public final class OracleTest {
 
     private void newMethod(int build) {
         due("method(" + build + ")", oracle.method(build), x.method(build));
+    }
+
+    private void assumed(int a, int b) {
+        due("assume(" + a + ", " + b + ")", oracle.assume(a, b), x.assume(a, b));
+    }
+
+    private void assumeAll() {
+        if (oracle.count(2) < 2 || below(4) == 0) {
+            due("drop()", oracle.drop(), x.drop());
+            for (int m = 0; m < Math.min(oracle.count(0), oracle.count(1)); m++) {
+                assumed(m, m);
+            }
+        }
     }
 
     private void append(int build, int method, int... line) {
@@ -110,17 +129,17 @@ public final class OracleTest {
     /** Two METHODS of the same OPS but for a change now and then, so that they are often LIKE. */
     private void twins() {
         int a = below(oracle.count(0));
-        int b = below(oracle.count(1));
+        int b = paired && a < oracle.count(1) ? a : below(oracle.count(1));
         clear(0, a);
         clear(1, b);
-        int size = below(8);
+        int size = below(paired ? 14 : 8);
         List<int[]> lines = new ArrayList<>();
         for (int i = 0; i < size; i++) {
             lines.add(drawLine(i));
             append(0, a, lines.get(i));
         }
-        int change = below(3) == 0 ? below(10) : NEVER;
-        int swap = below(3) == 0 ? below(10) : NEVER;
+        int change = below(paired ? 12 : 3) == 0 ? below(10) : NEVER;
+        int swap = below(paired ? 12 : 3) == 0 ? below(10) : NEVER;
         if (change >= 0 && change < size) {
             lines.set(change, drawLine(change));
         }
@@ -148,6 +167,10 @@ public final class OracleTest {
                 runAndLook(near(2), b, near(numbers), near(numbers));
                 break;
             case 6:
+                // What is told by twins is LIKE no more where PORTS are renamed.
+                if (paired && below(8) != 0) {
+                    break;
+                }
                 due("rename(" + p + ", " + q + ")", oracle.rename(p, q), x.rename(p, q));
                 break;
             case 7:
@@ -164,7 +187,7 @@ public final class OracleTest {
                 watched(3, "(" + a + ", " + b + ")", oracle.find(a, b), x.find(a, b));
                 break;
             case 13: case 14: case 15:
-                due("assume(" + a + ", " + b + ")", oracle.assume(a, b), x.assume(a, b));
+                assumed(a, paired && below(8) != 0 ? a : b);
                 break;
             case 16:
                 due("drop()", oracle.drop(), x.drop());
