@@ -17,6 +17,7 @@ public final class BuildTest {
         CHECK.end();
     }
 
+    /** "No METHODS, no PAIRS"; "WORDS have W bits (3, if the constructor's number is odd, else 2)". */
     private static void newObjects() {
         int[] numbers = {0, 2, -2, 1234, MIN, 1, -1, 3, -3, 1235, MAX};
         for (int i = 0; i < numbers.length; i++) {
@@ -38,6 +39,7 @@ public final class BuildTest {
         }
     }
 
+    /** "A METHOD without OPS: its number. UNKNOWN; ROOM." */
     private static void methods() {
         EqualMethods x = new EqualMethods(2);
         int[] wrong = {-1, 2, MIN, MAX};
@@ -56,6 +58,7 @@ public final class BuildTest {
         CHECK.due("UNKNOWN ahead of ROOM", EqualMethods.UNKNOWN, x.method(2));
     }
 
+    /** "An OP behind the others of a METHOD": of that METHOD alone. */
     private static void methodsAreApart() {
         EqualMethods x = new EqualMethods(1);
         for (int i = 0; i < 6; i++) {
@@ -76,6 +79,7 @@ public final class BuildTest {
         }
     }
 
+    /** "OUTSIDE (a number is not as told)": the least and the greatest of each operand, and the ones beside them. */
     private static void operands(int bits) {
         for (int op = 0; op < Programs.OPS; op++) {
             EqualMethods x = new EqualMethods(bits);
@@ -102,6 +106,7 @@ public final class BuildTest {
         CHECK.due("OPS behind " + call, want == 0 ? 1 : 0, x.clear(0, 0));
     }
 
+    /** "what one does not name is not looked at": nor refused. */
     private static void freeOperands() {
         EqualMethods x = new EqualMethods(2);
         x.method(1);
@@ -114,6 +119,7 @@ public final class BuildTest {
         }
     }
 
+    /** "UNKNOWN; OUTSIDE: also the OP". */
     private static void refusalsInOrder() {
         EqualMethods x = new EqualMethods(2);
         x.method(0);
@@ -136,6 +142,7 @@ public final class BuildTest {
         CHECK.due("OPS behind refusals", 1, x.clear(0, 0));
     }
 
+    /** "its LINE .. ROOM": 24 OPS, and no 25th until they go. */
     private static void roomForOps() {
         EqualMethods x = new EqualMethods(3);
         x.method(0);
@@ -155,6 +162,7 @@ public final class BuildTest {
         CHECK.due("the other METHOD keeps its OPS", 1, x.clear(0, 1));
     }
 
+    /** "A METHOD's OPS go: how many." */
     private static void clears() {
         EqualMethods x = new EqualMethods(3);
         Programs.make(x, 0, Programs.line(Programs.RETURN, 0));
@@ -171,8 +179,26 @@ public final class BuildTest {
         x.run(1, 0, 5, 6);
         CHECK.due("the other BUILD", 5, x.ran(0));
         CHECK.due("clear(1, 0)", 2, x.clear(1, 0));
+        clearsOfPairs();
     }
 
+    private static void clearsOfPairs() {
+        EqualMethods x = new EqualMethods(2);
+        Programs.make(x, 0, Programs.times(24, "SET 2 1"));
+        Programs.make(x, 1, "RETURN 0");
+        x.assume(0, 0);
+        x.run(0, 0, 1, 1);
+        CHECK.due("not LIKE", 0, x.prove());
+        CHECK.due("a full METHOD", 24, x.clear(0, 0));
+        CHECK.due("the other METHOD of the PAIR", 1, x.clear(1, 0));
+        CHECK.due("the PAIR stays", 1, x.count(2));
+        CHECK.due("the METHODS stay", 1, x.count(0));
+        CHECK.due("the latest run() stays", 24, x.ran(2));
+        CHECK.due("why() stays", 1, x.why(1));
+        CHECK.due("LIKE without OPS", 1, x.prove());
+    }
+
+    /** "0 METHODS of BUILD 0, 1 of BUILD 1, 2 PAIRS, 3 W. 4 + p .., 8 + p its GROUP. UNKNOWN." */
     private static void counts() {
         EqualMethods x = new EqualMethods(4);
         x.method(0);

@@ -6,6 +6,7 @@ import java.nio.charset.StandardCharsets;
 import java.nio.file.Files;
 import java.nio.file.Path;
 import java.util.Arrays;
+import java.util.List;
 import java.util.Map;
 import java.util.TreeMap;
 import java.util.regex.Matcher;
@@ -21,6 +22,7 @@ public final class FaceTest {
         members();
         nestedClasses();
         words();
+        lengths();
         CHECK.end();
     }
 
@@ -60,6 +62,12 @@ public final class FaceTest {
             }
         }
         CHECK.due("constants of the face", constants.size(), seen);
+        fields(FACE);
+    }
+
+    private static void fields(Class<?> of) {
+        long own = Arrays.stream(of.getDeclaredFields()).filter(field -> !Modifier.isStatic(field.getModifiers())).count();
+        CHECK.due(of + " has some twenty fields at most", 1, own <= 20 ? 1 : 0);
     }
 
     private static void nestedClasses() {
@@ -68,6 +76,7 @@ public final class FaceTest {
             int modifiers = nested.getModifiers();
             CHECK.due(nested + " is static", 1, Modifier.isStatic(modifiers) ? 1 : 0);
             CHECK.due(nested + " is not of the face", 0, modifiers & (Modifier.PUBLIC | Modifier.PROTECTED));
+            fields(nested);
             for (Method method : nested.getDeclaredMethods()) {
                 CHECK.due(method + " takes at most seven", 1, method.getParameterCount() <= 7 ? 1 : 0);
             }
@@ -87,5 +96,23 @@ public final class FaceTest {
             high = Math.max(high, text.charAt(i));
         }
         CHECK.due("plain characters", 1, high < 127 ? 1 : 0);
+    }
+
+    /** A method's lines: from the one that opens it to the brace that stands as far in as it. */
+    private static void lengths() throws IOException {
+        List<String> lines = Files.readAllLines(SOURCE, StandardCharsets.ISO_8859_1);
+        int methods = 0;
+        for (int from = 0; from < lines.size(); from++) {
+            Matcher opens = Pattern.compile("( {4}| {8})[a-z].*\\) \\{").matcher(lines.get(from));
+            if (opens.matches() && !lines.get(from).matches(" *(if|for|while|switch) .*")) {
+                methods++;
+                int to = from;
+                while (!lines.get(to).equals(opens.group(1) + "}")) {
+                    to++;
+                }
+                CHECK.due(lines.get(from).trim() + " is short", 1, to - from <= 60 ? 1 : 0);
+            }
+        }
+        CHECK.due("methods were seen", 1, methods > 40 ? 1 : 0);
     }
 }

@@ -26,6 +26,7 @@ public final class HoldTest {
         CHECK.due(call, 1000 * p0 + 100 * p1 + 10 * p2 + p3, got);
     }
 
+    /** "PORT p of BUILD 0 stands for PORT q; the one that stood for q stands for what p stood for: that. UNKNOWN." */
     private static void renames() {
         EqualMethods x = new EqualMethods(2);
         dueNames(x, "at first", 0, 1, 2, 3);
@@ -47,6 +48,7 @@ public final class HoldTest {
         dueNames(x, "behind refusals", 2, 3, 0, 1);
     }
 
+    /** "PORT p is of GROUP g: of which it was. UNKNOWN; OUTSIDE." */
     private static void groups() {
         EqualMethods x = new EqualMethods(2);
         for (int p = 0; p < 4; p++) {
@@ -89,6 +91,7 @@ public final class HoldTest {
         CHECK.due("by 0, both", 1, x.hold(a, b));
     }
 
+    /** "The FIRST inputs of the latest hold(), x (0), y (1); NONE: it did not answer 0. UNKNOWN." */
     private static void firstInputs() {
         for (int bits = 2; bits <= 3; bits++) {
             int numbers = 1 << bits;
@@ -219,6 +222,7 @@ public final class HoldTest {
         CHECK.due("PORT 0 of its own GROUP", 1, x.hold(a, b));
     }
 
+    /** "The first METHOD of BUILD 1 against which a, HELD, answers 1; NONE. UNKNOWN." */
     private static void matches() {
         EqualMethods x = new EqualMethods(2);
         int a = Programs.make(x, 0, Programs.line(Programs.ADD, 2, 0, 1), Programs.line(Programs.RETURN, 2));
@@ -246,6 +250,7 @@ public final class HoldTest {
         }
     }
 
+    /** "By which RENAMING, the first of all 24 in order .. NONE. (It is not kept.)" */
     private static void finds() {
         for (int bits = 2; bits <= 3; bits++) {
             EqualMethods x = new EqualMethods(bits);
@@ -341,6 +346,7 @@ public final class HoldTest {
         CHECK.due("find by GROUPS", 1000 * p0 + 100 * p1 + 10 * p2 + p3, x.find(a, b));
     }
 
+    /** "of the latest hold()", "of the latest run()": not of match(), find() and prove(). */
     private static void leavesOthersAlone() {
         EqualMethods x = new EqualMethods(2);
         int a = Programs.make(x, 0, Programs.line(Programs.TELL, 2, 1), Programs.line(Programs.RETURN, 0));
@@ -361,6 +367,7 @@ public final class HoldTest {
         CHECK.due("first(0) is of hold(), not of find()", NONE, x.first(0));
     }
 
+    /** "METHODS a and b are HELD against each other .. UNKNOWN." */
     private static void refusals() {
         EqualMethods x = new EqualMethods(2);
         x.method(0);

@@ -27,6 +27,7 @@ public final class ProveTest {
         }
     }
 
+    /** "A PAIR is ASSUMED: its number. UNKNOWN; STATE: it is already; ROOM."; "how many were". */
     private static void assumes() {
         EqualMethods x = new EqualMethods(2);
         x.method(0);
@@ -59,6 +60,7 @@ public final class ProveTest {
         CHECK.due("METHODS stay", 6, x.count(0));
     }
 
+    /** "1: each ASSUMED PAIR HOLDS; 0: some two WALKS .. are not LIKE": without CALLINGS. */
     private static void withoutCalls() {
         EqualMethods x = new EqualMethods(3);
         int a = Programs.make(x, 0, Programs.line(Programs.ADD, 0, 0, 1), Programs.line(Programs.RETURN, 0));
@@ -233,6 +235,7 @@ public final class ProveTest {
         CHECK.due("renamed", 1, x.prove());
     }
 
+    /** "else 2": by a third CALLING. */
     private static void thirdCallingIsOpen() {
         EqualMethods x = new EqualMethods(2);
         int[] call = Programs.line(Programs.CALL, 2, 0, 0);
@@ -252,6 +255,7 @@ public final class ProveTest {
         dueWhy(x, "unlike behind an OPEN one", 0, 1, 0, 0, 0);
     }
 
+    /** "else 2": by a WALK that would be SPENT. */
     private static void spentIsOpen() {
         EqualMethods x = new EqualMethods(2);
         int[] round = Programs.line(Programs.GO, 0);
@@ -277,6 +281,7 @@ public final class ProveTest {
         dueWhy(x, "SPENT by an ANSWER", 0, 0, 0, 2, 0);
     }
 
+    /** "(CALL of one that is not there: as told.)" */
     private static void missingIsNoCalling() {
         EqualMethods x = new EqualMethods(3);
         int[] call = Programs.line(Programs.CALL, 2, 0, 0);
@@ -291,6 +296,7 @@ public final class ProveTest {
         CHECK.due("no inputs to compare", 1, x.prove());
     }
 
+    /** "of the first such WALKS (the first with an OPEN one), by PAIRS". */
     private static void firstByPairs() {
         EqualMethods x = new EqualMethods(3);
         int same = x.method(0);
@@ -309,6 +315,7 @@ public final class ProveTest {
         dueWhy(x, "the first PAIR is unlike too", 0, 1, 0, 0, 0);
     }
 
+    /** "Of the latest prove(), that answered 0 (2) .. NONE without. UNKNOWN." */
     private static void whyOfTheLatest() {
         EqualMethods x = new EqualMethods(2);
         int a = Programs.make(x, 0, Programs.line(Programs.RETURN, 0));

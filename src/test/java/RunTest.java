@@ -46,6 +46,7 @@ public final class RunTest {
         }
     }
 
+    /** "2 ADD r s t, 3 LESS, 4 TIMES, 5 OVER (cut), 6 REST (of that), 7 AND, 8 XOR, 9 BELOW": of all NUMBERS. */
     private static void arithmetic(int bits) {
         int numbers = 1 << bits;
         for (int op = Programs.ADD; op <= Programs.BELOW; op++) {
@@ -63,6 +64,7 @@ public final class RunTest {
         }
     }
 
+    /** "OVER, REST by 0 THROW KIND 1, with 0". */
     private static void byZero(int bits) {
         EqualMethods x = new EqualMethods(bits);
         int method = x.method(0);
@@ -74,6 +76,7 @@ public final class RunTest {
         }
     }
 
+    /** "CALL of a METHOD that is not there KIND 8, with its number", which is cut as all that comes. */
     private static void methodNotThere(int bits) {
         EqualMethods x = new EqualMethods(bits);
         int mask = (1 << bits) - 1;
@@ -92,6 +95,7 @@ public final class RunTest {
         dueCounts(x, "CALL of one that has come", 2, 0, 2);
     }
 
+    /** "0 SET r v", "1 COPY r s": of each REGISTER. */
     private static void registers() {
         EqualMethods x = new EqualMethods(1);
         int method = x.method(0);
@@ -107,6 +111,7 @@ public final class RunTest {
         }
     }
 
+    /** "10 SKIP r l", "11 GO l": forth and back. */
     private static void jumps() {
         EqualMethods x = new EqualMethods(1);
         int skip = Programs.make(x, 0, Programs.line(Programs.SKIP, 0, 3), Programs.line(Programs.SET, 2, 4),
@@ -125,6 +130,7 @@ public final class RunTest {
         CHECK.due("OPS of that", 4, x.ran(2));
     }
 
+    /** "Behind the last LINE (also by l) it RETURNS 0": by each l. */
     private static void endsOfLines() {
         EqualMethods x = new EqualMethods(1);
         int method = x.method(0);
@@ -144,6 +150,7 @@ public final class RunTest {
         }
     }
 
+    /** "13 CALL r m s: METHOD m (0 .. 5) of its BUILD". */
     private static void calls() {
         EqualMethods x = new EqualMethods(1);
         int minus = Programs.make(x, 0, Programs.line(Programs.LESS, 5, 0, 1), Programs.line(Programs.RETURN, 5));
@@ -170,6 +177,7 @@ public final class RunTest {
         dueRun(x, "a CALL stays in its BUILD", 3, 4);
     }
 
+    /** "what it THROWS goes out": of each KIND. */
     private static void throwsGoOut() {
         EqualMethods x = new EqualMethods(1);
         int thrower = x.method(0);
@@ -183,6 +191,7 @@ public final class RunTest {
         }
     }
 
+    /** "2 OPS that were begun": at the edge of 100. */
     private static void spentByOps() {
         EqualMethods x = new EqualMethods(2);
         // 24 LINES that are gone through four times, then the last four OPS up to the 100th.
@@ -214,6 +223,7 @@ public final class RunTest {
         dueCounts(x, "behind the last LINE with 100 OPS", 100, 0, 3);
     }
 
+    /** "3 TELLS": at the edge of 40. */
     private static void spentByTells() {
         EqualMethods x = new EqualMethods(3);
         int twenty = x.method(1);
@@ -240,6 +250,7 @@ public final class RunTest {
         CHECK.due("TELLS of a SPENT run are kept", 6, x.told(39, 1));
     }
 
+    /** "4 how many METHODS were under way at most": at the edge of 8. */
     private static void spentByDepth() {
         EqualMethods x = new EqualMethods(3);
         int down = Programs.make(x, 0, Programs.line(Programs.SKIP, 0, 4), Programs.line(Programs.SET, 2, 1),
@@ -265,6 +276,7 @@ public final class RunTest {
         dueCounts(x, "not there, from the 8th", 7 * 4 + 2, 0, 8);
     }
 
+    /** "TELL i of the latest run(): 0 its PORT, 1 its NUMBER. NONE; UNKNOWN (what)." */
     private static void tells() {
         EqualMethods x = new EqualMethods(2);
         int method = Programs.make(x, 0, Programs.line(Programs.TELL, 3, 0), Programs.line(Programs.TELL, 0, 1),
@@ -290,11 +302,16 @@ public final class RunTest {
         CHECK.due("TELLS of the run before are gone", EqualMethods.NONE, x.told(0, 0));
     }
 
+    /** "A METHOD is RUN .. UNKNOWN; OUTSIDE.": then the latest run() is the one before. */
     private static void refusals() {
         for (int bits = 2; bits <= 3; bits++) {
             EqualMethods x = new EqualMethods(bits);
             int mask = (1 << bits) - 1;
             Programs.make(x, 0, Programs.line(Programs.TELL, 1, 0), Programs.line(Programs.THROW, 5, 1));
+            CHECK.due("refused ahead of any", EqualMethods.OUTSIDE, x.run(0, 0, mask + 1, 0));
+            dueRun(x, "ahead of any", 0, 0);
+            dueCounts(x, "ahead of any", 0, 0, 0);
+            CHECK.due("told ahead of any", EqualMethods.NONE, x.told(0, 0));
             x.run(0, 0, mask, mask);
             int[] wrong = {-1, mask + 1, MIN, MAX};
             for (int number : wrong) {
