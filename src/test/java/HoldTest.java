@@ -68,6 +68,7 @@ public final class HoldTest {
         }
     }
 
+    /** "if they end alike (KIND, NUMBER)". */
     private static void endings() {
         EqualMethods x = new EqualMethods(3);
         int a = x.method(0);
@@ -125,6 +126,7 @@ public final class HoldTest {
         }
     }
 
+    /** "else 2 if some RUN was SPENT; else 1". */
     private static void spentRuns() {
         EqualMethods x = new EqualMethods(2);
         int[][] spentAtZero = {Programs.line(Programs.SKIP, 0, 0), Programs.line(Programs.RETURN, 1)};
@@ -144,6 +146,7 @@ public final class HoldTest {
         CHECK.due("the last ones SPENT, of BUILD 1", 2, x.hold(a, b));
     }
 
+    /** "order counts among what is told to PORTS of one GROUP". */
     private static void tellsInOrder() {
         EqualMethods x = new EqualMethods(2);
         int a = Programs.make(x, 0, Programs.line(Programs.TELL, 0, 0), Programs.line(Programs.TELL, 1, 1),
@@ -182,6 +185,7 @@ public final class HoldTest {
         CHECK.due("the PORT counts in one GROUP too", 0, x.hold(a, b));
     }
 
+    /** "for each GROUP the TELLS to its PORTS .. are the same": of as many TELLS as there may be. */
     private static void fortyTells() {
         EqualMethods x = new EqualMethods(3);
         for (int build = 0; build < 2; build++) {
@@ -200,6 +204,7 @@ public final class HoldTest {
         CHECK.due("20 TELLS by GROUPS", 1, x.hold(0, 0));
     }
 
+    /** "(of BUILD 1 by those they stand for)". */
     private static void tellsRenamed() {
         EqualMethods x = new EqualMethods(2);
         int a = Programs.make(x, 0, Programs.line(Programs.TELL, 0, 0), Programs.line(Programs.TELL, 1, 1),
@@ -308,6 +313,7 @@ public final class HoldTest {
         }
     }
 
+    /** "a and b answer 1": for all inputs, up to the last. */
     private static void findsByTheLastInputs() {
         for (int bits = 2; bits <= 3; bits++) {
             int greatest = (1 << bits) - 1;

@@ -136,6 +136,7 @@ public final class ProveTest {
         dueWhy(x, "unlike only where KIND 9 ends the second", 0, 0, 0, 1, numbers);
     }
 
+    /** "each of METHODS that are an ASSUMED PAIR". */
     private static void callingsMustBePairs() {
         EqualMethods x = new EqualMethods(2);
         int a = Programs.make(x, 0, Programs.line(Programs.CALL, 2, 1, 0), Programs.line(Programs.RETURN, 2));
@@ -164,6 +165,7 @@ public final class ProveTest {
         CHECK.due("both are ASSUMED", 1, x.prove());
     }
 
+    /** "if they have as many CALLINGS". */
     private static void callingsMustBeAsMany() {
         EqualMethods x = new EqualMethods(2);
         int a = Programs.make(x, 0, Programs.line(Programs.CALL, 2, 0, 0));
@@ -180,6 +182,7 @@ public final class ProveTest {
         CHECK.due("one and one", 1, x.prove());
     }
 
+    /** "with the same inputs". */
     private static void callingsMustHaveTheSameInputs() {
         EqualMethods x = new EqualMethods(2);
         int a = Programs.make(x, 0, Programs.line(Programs.CALL, 2, 0, 0), Programs.line(Programs.RETURN, 2));
@@ -201,6 +204,7 @@ public final class ProveTest {
         dueWhy(x, "another x of the second", 0, 0, 0, 1, 0);
     }
 
+    /** "the TELLS ahead of the first one, between them, behind the last one are LIKE". */
     private static void tellsBetweenCallings() {
         EqualMethods x = new EqualMethods(2);
         int[] call = Programs.line(Programs.CALL, 2, 0, 0);
@@ -337,6 +341,7 @@ public final class ProveTest {
         dueWhy(x, "prove() that answered 1");
     }
 
+    /** "no CALL begins another METHOD". */
     private static void provesWhatHoldCannot() {
         EqualMethods x = new EqualMethods(1);
         int[] again = Programs.line(Programs.CALL, 2, 0, 0);

@@ -91,6 +91,7 @@ public final class RefusalTest {
         new State(x).due(CHECK, "behind " + name, untouched);
     }
 
+    /** "BUILDS 0 and 1"; "6 at most". */
     private void builds() {
         for (int build : new int[] {-1, 2, MIN, MAX}) {
             due("method(" + build + ")", UNKNOWN, x -> x.method(build));
@@ -101,6 +102,7 @@ public final class RefusalTest {
         due("method(1), a 7th", ROOM, x -> x.method(1));
     }
 
+    /** "METHODS 0, 1, .. as they come": of the BUILD that is meant. */
     private void methods() {
         for (int m : new int[] {-1, 6, MIN, MAX}) {
             for (int build = 0; build < 2; build++) {
@@ -125,6 +127,7 @@ public final class RefusalTest {
         }
     }
 
+    /** "OUTSIDE: also the OP; ROOM"; "24 at most". */
     private void ops() {
         for (int op : new int[] {-1, 16, MIN, MAX}) {
             due("OP " + op, OUTSIDE, x -> x.op(0, 2, op, 0, 0, 0));
@@ -136,6 +139,7 @@ public final class RefusalTest {
         }
     }
 
+    /** "r, s, t are REGISTERS", "NUMBER v", "LINE l (0 .. 24)", "PORT p", "METHOD m (0 .. 5)", "KIND k (2 .. 7)". */
     private void operands() {
         for (int op = 0; op < Programs.OPS; op++) {
             for (int place = 0; place < 3; place++) {
@@ -160,6 +164,7 @@ public final class RefusalTest {
         due(name + ", of no METHOD", UNKNOWN, x -> x.op(0, 3, op, given[0], given[1], given[2]));
     }
 
+    /** "NUMBERS 0 .. 2^W - 1": as inputs. */
     private void inputs() {
         for (int number : new int[] {-1, 8, MIN, MAX}) {
             due("run(0, 0, " + number + ", 0)", OUTSIDE, x -> x.run(0, 0, number, 0));
@@ -169,6 +174,7 @@ public final class RefusalTest {
         }
     }
 
+    /** "PORTS 0 .. 3", "GROUPS 0 .. 3". */
     private void ports() {
         for (int number : new int[] {-1, 4, MIN, MAX}) {
             due("rename(" + number + ", 0)", UNKNOWN, x -> x.rename(number, 0));
@@ -180,6 +186,7 @@ public final class RefusalTest {
         }
     }
 
+    /** "UNKNOWN (.. what)"; "NONE: there is none". */
     private void whats() {
         for (int what : new int[] {-1, 5, MIN, MAX}) {
             due("ran(" + what + ")", UNKNOWN, x -> x.ran(what));
@@ -199,6 +206,7 @@ public final class RefusalTest {
         }
     }
 
+    /** "STATE: it is already; ROOM". */
     private void pairs() {
         for (int[] pair : PAIRS) {
             due("assume(" + pair[0] + ", " + pair[1] + ") again", STATE, x -> x.assume(pair[0], pair[1]));
@@ -247,6 +255,7 @@ public final class RefusalTest {
         due("clear() of no OPS", 0, x -> x.clear(0, 2));
     }
 
+    /** "No METHODS, no PAIRS". */
     private void nothingThere() {
         due("method(2)", UNKNOWN, x -> x.method(2));
         due("op(0, 0, ..)", UNKNOWN, x -> x.op(0, 0, Programs.RETURN, 0, 0, 0));
