@@ -96,7 +96,7 @@ public final class EqualMethods {
     }
 
     public int op(int build, int method, int op, int a, int b, int c) {
-        if (!isMethod(build, method) || op == TELL && !isPort(a)) {
+        if (!isMethod(build, method)) {
             return UNKNOWN;
         }
         if (!within(op, SET, THROW) || !fits(op, 0, a) || !fits(op, 1, b) || !fits(op, 2, c)) {
@@ -281,9 +281,9 @@ public final class EqualMethods {
             case A_REGISTER: return within(value, 0, REGISTERS - 1);
             case A_NUMBER: return within(value, 0, mask);
             case A_LINE: return within(value, 0, MOST_LINES);
+            case A_PORT: return isPort(value);
             case A_METHOD: return within(value, 0, MOST_METHODS - 1);
             case A_KIND: return within(value, LOWEST_KIND, HIGHEST_KIND);
-            // A PORT that is not there has been refused ahead, as UNKNOWN.
             default: return true;
         }
     }

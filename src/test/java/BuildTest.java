@@ -86,13 +86,12 @@ public final class BuildTest {
             x.method(0);
             for (int place = 0; place < 3; place++) {
                 if (Programs.isNamed(op, place)) {
-                    int refused = op == Programs.TELL && place == 0 ? EqualMethods.UNKNOWN : EqualMethods.OUTSIDE;
                     operand(x, op, place, Programs.least(op, place), 0);
                     operand(x, op, place, Programs.most(op, place, bits), 0);
-                    operand(x, op, place, Programs.least(op, place) - 1, refused);
-                    operand(x, op, place, Programs.most(op, place, bits) + 1, refused);
-                    operand(x, op, place, MIN, refused);
-                    operand(x, op, place, MAX, refused);
+                    operand(x, op, place, Programs.least(op, place) - 1, EqualMethods.OUTSIDE);
+                    operand(x, op, place, Programs.most(op, place, bits) + 1, EqualMethods.OUTSIDE);
+                    operand(x, op, place, MIN, EqualMethods.OUTSIDE);
+                    operand(x, op, place, MAX, EqualMethods.OUTSIDE);
                 }
             }
         }
@@ -128,11 +127,12 @@ public final class BuildTest {
         CHECK.due("no such METHOD", EqualMethods.UNKNOWN, x.op(0, 1, 99, 0, 0, 0));
         CHECK.due("no such METHOD", EqualMethods.UNKNOWN, x.op(0, -1, 0, 9, 0, 0));
         CHECK.due("no such METHOD", EqualMethods.UNKNOWN, x.op(1, 0, 0, 0, 0, 0));
-        CHECK.due("no such PORT ahead of no such REGISTER", EqualMethods.UNKNOWN, x.op(0, 0, 12, 4, 6, 0));
         int[] wrong = {-1, 16, MIN, MAX};
         for (int op : wrong) {
             CHECK.due("op " + op, EqualMethods.OUTSIDE, x.op(0, 0, op, 0, 0, 0));
         }
+        CHECK.due("a PORT as a part of the OP", EqualMethods.OUTSIDE, x.op(0, 0, 12, 4, 0, 0));
+        CHECK.due("a METHOD as a part of the OP", EqualMethods.OUTSIDE, x.op(0, 0, 13, 0, 6, 0));
         CHECK.due("a METHOD that may come", 0, x.op(0, 0, 13, 0, 5, 0));
         CHECK.due("no such METHOD, clear", EqualMethods.UNKNOWN, x.clear(0, 1));
         CHECK.due("no such METHOD, clear", EqualMethods.UNKNOWN, x.clear(0, -1));
@@ -153,7 +153,8 @@ public final class BuildTest {
         CHECK.due("25th op", EqualMethods.ROOM, x.op(0, 0, 0, 0, 0, 0));
         CHECK.due("OUTSIDE ahead of ROOM", EqualMethods.OUTSIDE, x.op(0, 0, 0, 6, 0, 0));
         CHECK.due("OUTSIDE ahead of ROOM", EqualMethods.OUTSIDE, x.op(0, 0, 16, 0, 0, 0));
-        CHECK.due("UNKNOWN ahead of ROOM", EqualMethods.UNKNOWN, x.op(0, 0, 12, 4, 0, 0));
+        CHECK.due("OUTSIDE ahead of ROOM", EqualMethods.OUTSIDE, x.op(0, 0, 12, 4, 0, 0));
+        CHECK.due("UNKNOWN ahead of ROOM", EqualMethods.UNKNOWN, x.op(2, 0, 12, 0, 0, 0));
         CHECK.due("another METHOD has room", 0, x.op(0, 1, 0, 0, 0, 0));
         x.run(0, 0, 1, 1);
         CHECK.due("24 OPS are run", 24, x.ran(2));

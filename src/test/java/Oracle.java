@@ -154,7 +154,7 @@ final class Oracle {
             case 1: return out(a, 0, 5) || out(b, 0, 5);
             case 10: return out(a, 0, 5) || out(b, 0, 24);
             case 11: return out(a, 0, 24);
-            case 12: return out(b, 0, 5);
+            case 12: return out(a, 0, 3) || out(b, 0, 5);
             case 14: return out(a, 0, 5);
             case 15: return out(a, 2, 7) || out(b, 0, 5);
             default: return out(op, 0, 15) || out(a, 0, 5) || out(b, 0, 5) || out(c, 0, 5);
@@ -162,7 +162,7 @@ final class Oracle {
     }
 
     int op(int build, int method, int op, int a, int b, int c) {
-        if (unknown(build, method) || op == 12 && out(a, 0, 3)) {
+        if (unknown(build, method)) {
             return UNKNOWN;
         }
         if (outside(op, a, b, c)) {

@@ -157,10 +157,9 @@ public final class RefusalTest {
     private void operand(int op, int place, int value) {
         int[] given = Programs.leastOperands(op);
         given[place] = value;
-        int want = op == Programs.TELL && place == 0 ? UNKNOWN : OUTSIDE;
         String name = "OP " + op + " of " + given[0] + " " + given[1] + " " + given[2];
-        due(name, want, x -> x.op(0, 2, op, given[0], given[1], given[2]));
-        due(name + ", a 25th", want, x -> x.op(0, FULL, op, given[0], given[1], given[2]));
+        due(name, OUTSIDE, x -> x.op(0, 2, op, given[0], given[1], given[2]));
+        due(name + ", a 25th", OUTSIDE, x -> x.op(0, FULL, op, given[0], given[1], given[2]));
         due(name + ", of no METHOD", UNKNOWN, x -> x.op(0, 3, op, given[0], given[1], given[2]));
     }
 
@@ -220,7 +219,7 @@ public final class RefusalTest {
         due("no METHOD, no OP, no room", UNKNOWN, x -> x.op(1, 6, 16, 9, 9, 9));
         due("no BUILD, no METHOD, no OP", UNKNOWN, x -> x.op(2, 6, 16, 9, 9, 9));
         due("no OP, no room", OUTSIDE, x -> x.op(0, FULL, 16, 0, 0, 0));
-        due("no PORT, no REGISTER, no room", UNKNOWN, x -> x.op(0, FULL, Programs.TELL, 4, 6, 0));
+        due("no PORT, no REGISTER, no room", OUTSIDE, x -> x.op(0, FULL, Programs.TELL, 4, 6, 0));
         due("no METHOD of both BUILDS", UNKNOWN, x -> x.assume(3, 6));
         due("no METHOD, and no room for PAIRS", UNKNOWN, x -> x.assume(0, 6));
         due("no BUILD, and no room for METHODS", UNKNOWN, x -> x.method(2));
